@@ -239,7 +239,7 @@ public final class FramePool {
         for (int looks = 0; looks < 2 * frameCount; looks++) {
             int f = hand;
             moveHand();
-            if (isFreeAtLook(f)) {
+            if (lookAt(f)) {
                 return f;
             }
         }
@@ -250,7 +250,8 @@ public final class FramePool {
         hand = hand + 1 < frameCount ? hand + 1 : 0;
     }
 
-    private boolean isFreeAtLook(int f) {
+    /** Whether the frame is found; it is empty then. */
+    private boolean lookAt(int f) {
         if (pins[f] > 0) {
             return false;
         }

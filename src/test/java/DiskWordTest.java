@@ -29,6 +29,19 @@ public final class DiskWordTest {
         pool.writeWord(2, 0, 99);
         check.due("diskWord(2, 0), frame dirty", pool.diskWord(2, 0), 21);
         check.counts(pool, 4, 4);
+        farPagesOfEightWords(check);
         check.end();
+    }
+
+    /** Times eight, some of these numbers wrap round to a place on the disk. */
+    private static void farPagesOfEightWords(Check check) {
+        FramePool pool = new FramePool(1, 200, 8);
+        pool.fetch(0);
+        pool.writeWord(0, 0, 5);
+        pool.flush(0);
+        for (int page : Check.FAR_OFF) {
+            check.due("diskWord(" + page + ", 0)", pool.diskWord(page, 0), 0);
+        }
+        check.due("diskWord(0, 0)", pool.diskWord(0, 0), 5);
     }
 }
