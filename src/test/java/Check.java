@@ -4,21 +4,31 @@ final class Check {
     static final int[] FAR_OFF = {-1, -2, -5, 200, 256, 1 << 29, 1 << 30, Integer.MAX_VALUE, Integer.MIN_VALUE};
 
     private final String promise;
+    private String sentence = "";
     private int wrong;
 
     Check(String promise) {
         this.promise = promise;
     }
 
+    /** What the answers from here on are held against: the document's words, and in brackets the case. */
+    void sentence(String words) {
+        sentence = " '" + words + "'";
+    }
+
     void due(String call, long got, long want) {
         if (got != want) {
-            wrong++;
-            System.out.println(promise + ": " + call + " answered " + got + ", due is " + want);
+            wrong(call + " answered " + got + ", due is " + want);
         }
     }
 
     void due(String call, boolean got, boolean want) {
         due(call, got ? 1 : 0, want ? 1 : 0);
+    }
+
+    void wrong(String what) {
+        wrong++;
+        System.out.println(promise + sentence + ": " + what);
     }
 
     /** A frame as told() tells it: its page, pins, whether it is dirty, whether it has a mark. */
